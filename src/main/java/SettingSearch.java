@@ -309,7 +309,6 @@ public final class SettingSearch {
 
         /** Each vector is the one before it, counted on by one at the last machine. */
         private void fillTable() {
-            Arrays.fill(table, 0);
             for (int vector = 1; vector < vectors; vector++) {
                 int carry = 1;
                 for (int machine = count - 1; machine >= 0; machine--) {

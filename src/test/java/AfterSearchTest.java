@@ -1,90 +1,156 @@
-/** Promises 16 to 19: take, kept, clash, room. */
+/** Promises 16 to 19, sentence by sentence: take, kept, clash, room. */
 public final class AfterSearchTest {
     private static final Check CHECK = new Check("AfterSearchTest");
-    private static final long NONE_STANDS = Long.MIN_VALUE;
 
     public static void main(String[] args) {
         takeMakesTheBestCurrent();
+        takeLeavesWhatWasFound();
+        takeAnswersHowManyChanged();
+        takeIsNoneWhenThereIsNone();
         keptCountsByFeed();
-        clashOfOneRule();
-        clashOfTwoRules();
-        clashOfThreeRulesOverFewer();
-        clashTakesTheLeastSet();
-        clashFollowsRulesAsTheyAre();
-        clashOnlyOfTheLatestFeed();
+        keptCountsEachVectorOnce();
+        keptIsNoughtOfOtherFeeds();
         clashOnlyWhenEnded();
-        clashOfAllRules();
-        roomOfAMost();
-        roomFollowsCentsAndRules();
-        roomNeedsOneThatStands();
-        roomRefuses();
+        clashOnlyWhenNoneStands();
+        clashOfTheAnswersOfItsFeed();
+        clashOfAnswersNotGoneThrough();
+        clashByRulesAsTheyAreNow();
+        clashOfTheFewestRules();
+        clashOfRulesToldAlone();
+        clashOfTheLeastSum();
+        clashOfAllNineRules();
+        clashCountsByNumbers();
+        clashIsNoneBeyondTheSet();
+        roomIsWhatAMostCosts();
+        roomIsNoughtWithoutAMost();
+        roomOfTheAnswersOfItsFeed();
+        roomOfAnswersNotGoneThrough();
+        roomByCentsAndRulesAsTheyAreNow();
+        roomOfGreatNumbers();
+        roomIsTheLeastWhenNoneStands();
+        roomIsTheLeastWhenItDidNotEnd();
+        roomIsTheLeastOfOtherMachines();
         CHECK.finish();
     }
 
     private static void takeMakesTheBestCurrent() {
-        SettingSearch x = new SettingSearch();
-        x.machine(2);
-        x.machine(2);
-        x.machine(2);
+        CHECK.sentence("16: The best one becomes the current vector");
+        SettingSearch x = Runs.machines(2, 2, 2);
         x.worth(0, 0, 1);
-        CHECK.due("16 nothing found", x.take(), -1);
-        x.feed(3);
-        for (int call = 0; call < 6; call++) {
-            x.next();
-        }
-        CHECK.due("16 asked", x.asked(0) * 100 + x.asked(1) * 10 + x.asked(2), 11 + 90);
-        x.answer(0, 0, 3);
-        x.next();
-        CHECK.due("16 take", x.take(), 2);
-        CHECK.due("16 take again", x.take(), 0);
-        CHECK.due("16 best stays", x.best(0), 1);
-        CHECK.due("16 sum stays", x.sum(), 3);
-        CHECK.due("16 proved stays", x.proved(), true);
-        CHECK.due("16 kept stay", x.kept(3), 6);
+        Runs.endAt(x, 3, 5);
+        CHECK.due("best", Runs.best(x, 3).toString(), "[1, 0, 1]");
+        x.take();
         x.feed(4);
         x.next();
-        CHECK.due("16 the current one is asked first", x.asked(0) * 100 + x.asked(1) * 10 + x.asked(2), 101);
-        x.answer(0, 0, 1);
+        CHECK.due("asked first", Runs.asked(x, 3).toString(), "[1, 0, 1]");
         x.next();
-        CHECK.due("16 then machine 0 changes", x.asked(0) * 100 + x.asked(1) * 10 + x.asked(2), 1);
+        CHECK.due("asked then", Runs.asked(x, 3).toString(), "[0, 0, 1]");
         x.answer(0, 0, 4);
         x.next();
-        CHECK.due("16 one changed", x.take(), 1);
+        x.take();
+        x.feed(5);
+        x.next();
+        CHECK.due("asked first after another take", Runs.asked(x, 3).toString(), "[0, 0, 1]");
+    }
+
+    private static void takeLeavesWhatWasFound() {
+        CHECK.sentence("16: no more than that changes");
+        SettingSearch x = Runs.machines(2, 2, 2);
+        x.worth(0, 0, 1);
+        Runs.endAt(x, 3, 5);
+        x.take();
+        CHECK.due("best", Runs.best(x, 3).toString(), "[1, 0, 1]");
+        CHECK.due("sum", x.sum(), 3);
+        CHECK.due("bound", x.bound(), 3);
+        CHECK.due("proved", x.proved(), true);
+        CHECK.due("kept", x.kept(3), 6);
+        CHECK.due("room", x.room(0), 0);
+        CHECK.due("next", x.next(), -1);
+    }
+
+    private static void takeAnswersHowManyChanged() {
+        CHECK.sentence("16: Answers how many settings changed");
+        SettingSearch x = Runs.machines(2, 2, 2, 2, 2);
+        x.worth(0, 0, 1);
+        Runs.endAt(x, 3, 31);
+        CHECK.due("all five", x.take(), 5);
+        CHECK.due("again none", x.take(), 0);
+        Runs.endAt(x, 4, 0);
+        CHECK.due("the current one itself", x.take(), 0);
+        Runs.endAt(x, 5, 1);
+        CHECK.due("one", x.take(), 1);
+    }
+
+    private static void takeIsNoneWhenThereIsNone() {
+        CHECK.sentence("16: NONE when there is none such");
+        SettingSearch x = Runs.twoByThree();
+        CHECK.due("no search", x.take(), -1);
+        x.most(0, 0);
+        x.feed(1);
+        for (int vector = 0; vector < 6; vector++) {
+            x.next();
+            x.load(0, 1);
+        }
+        CHECK.due("end", x.next(), 0);
+        CHECK.due("none stands", x.take(), -1);
+        x.most(0, -1);
+        CHECK.due("none was found", x.take(), -1);
+        x.feed(1);
+        x.next();
+        CHECK.due("found now", x.take(), 0);
+        x.machine(1);
+        CHECK.due("forgotten", x.take(), -1);
     }
 
     private static void keptCountsByFeed() {
-        SettingSearch x = new SettingSearch();
-        x.machine(4);
+        CHECK.sentence("17: How many answers are kept of a feed");
+        SettingSearch x = Runs.machines(4);
         x.worth(0, 0, 1);
         x.feed(5);
-        CHECK.due("17 begun", x.kept(5), 0);
+        CHECK.due("begun", x.kept(5), 0);
         x.next();
         x.answer(0, 0, 1);
-        CHECK.due("17 told but not taken", x.kept(5), 0);
+        CHECK.due("told but not taken", x.kept(5), 0);
         x.next();
-        CHECK.due("17 taken", x.kept(5), 1);
+        CHECK.due("taken", x.kept(5), 1);
         x.answer(0, 0, 5);
         x.next();
-        CHECK.due("17 ended early", x.kept(5), 2);
-        CHECK.due("17 all of another feed", Runs.searchAll(x, 6, 2), 4);
-        CHECK.due("17 of 6", x.kept(6), 4);
-        CHECK.due("17 of 5", x.kept(5), 2);
-        CHECK.due("17 of 7", x.kept(7), 0);
-        CHECK.due("17 of 0", x.kept(0), 0);
-        CHECK.due("17 of -1", x.kept(-1), 0);
-        CHECK.due("17 of MAX", x.kept(Long.MAX_VALUE), 0);
-        CHECK.due("17 of MIN", x.kept(Long.MIN_VALUE), 0);
-        CHECK.due("17 of 2^32 + 6", x.kept((1L << 32) + 6), 0);
-        x.worth(0, 0, 0);
-        x.worth(0, 1, 1);
-        CHECK.due("17 the rest of 5", Runs.searchAll(x, 5, 2), 2);
-        CHECK.due("17 all of 5", x.kept(5), 4);
+        CHECK.due("ended early", x.kept(5), 2);
+        CHECK.due("all of another feed", Runs.searchAll(x, 6, 2), 4);
+        CHECK.due("of 6", x.kept(6), 4);
+        CHECK.due("of 5", x.kept(5), 2);
     }
 
-    /** Four vectors; the answer of vector i has the loads of row i. */
-    private static SettingSearch withLoads(int[][] loads) {
-        SettingSearch x = new SettingSearch();
-        x.machine(4);
+    private static void keptCountsEachVectorOnce() {
+        CHECK.sentence("17: How many answers are kept: of each vector one");
+        SettingSearch x = Runs.machines(4, 4, 4);
+        x.worth(0, 0, 1);
+        Runs.endAt(x, 5, 1);
+        CHECK.due("two", x.kept(5), 2);
+        x.worth(0, 0, 0);
+        x.worth(0, 1, 1);
+        CHECK.due("the others are asked for", Runs.searchAll(x, 5, 2), 62);
+        CHECK.due("all", x.kept(5), 64);
+        CHECK.due("none is asked for", Runs.searchAll(x, 5, 2), 0);
+        CHECK.due("all still", x.kept(5), 64);
+    }
+
+    private static void keptIsNoughtOfOtherFeeds() {
+        CHECK.sentence("17: How many answers are kept of a feed: none");
+        SettingSearch x = Runs.machines(1);
+        CHECK.due("nothing searched", x.kept(6), 0);
+        Runs.searchAll(x, 6, 2);
+        CHECK.due("of 6", x.kept(6), 1);
+        long[] others = {5, 7, 0, -1, -6, 1000001, (1L << 32) + 6, -(1L << 32) + 6,
+            Long.MAX_VALUE, Long.MIN_VALUE, Long.MIN_VALUE + 6};
+        for (long feed : others) {
+            CHECK.due("of " + feed, x.kept(feed), 0);
+        }
+    }
+
+    /** Four vectors of worths 10 to 40; the answer of vector i has the loads of row i. */
+    private static SettingSearch withLoads(int[]... loads) {
+        SettingSearch x = Runs.machines(4);
         for (int machine = 1; machine < loads[0].length; machine++) {
             x.machine(1);
         }
@@ -101,100 +167,26 @@ public final class AfterSearchTest {
         return x;
     }
 
+    private static int[] row(int... loads) {
+        return loads;
+    }
+
     private static void mosts(SettingSearch x, int... v) {
         for (int machine = 0; machine < v.length; machine++) {
             x.most(machine, v[machine]);
         }
     }
 
-    private static void dueClash(SettingSearch x, String call, int... rules) {
+    private static void dueClash(SettingSearch x, String when, int... rules) {
         for (int k = 0; k < rules.length; k++) {
-            CHECK.due("18 " + call + " clash(" + k + ")", x.clash(k), rules[k]);
+            CHECK.due(when + " clash(" + k + ")", x.clash(k), rules[k]);
         }
-        CHECK.due("18 " + call + " clash(" + rules.length + ")", x.clash(rules.length), -1);
-        CHECK.due("18 " + call + " clash(-1)", x.clash(-1), -1);
-        CHECK.due("18 " + call + " clash(MIN)", x.clash(Integer.MIN_VALUE), -1);
-        CHECK.due("18 " + call + " clash(MAX)", x.clash(Integer.MAX_VALUE), -1);
-    }
-
-    private static void clashOfOneRule() {
-        SettingSearch x = withLoads(new int[][] {{1, 5}, {2, 5}, {3, 5}, {4, 5}});
-        dueClash(x, "no rules");
-        mosts(x, 1, 5);
-        dueClash(x, "one stands");
-        mosts(x, 1, 4);
-        dueClash(x, "machine 1 alone", 5);
-        mosts(x, 0, 4);
-        dueClash(x, "each alone: the lesser", 4);
-        mosts(x, -1, 4);
-        dueClash(x, "one rule told", 5);
-    }
-
-    private static void clashOfTwoRules() {
-        SettingSearch x = withLoads(new int[][] {{1, 9, 0}, {9, 1, 0}, {1, 9, 9}, {9, 9, 9}});
-        mosts(x, 1, 1, 0);
-        dueClash(x, "0 against 1", 4, 5);
-        SettingSearch y = withLoads(new int[][] {{1, 1, 9}, {1, 1, 9}, {9, 9, 1}, {9, 1, 9}});
-        mosts(y, 1, 1, 1);
-        dueClash(y, "0 against 2 before 1 against 2", 4, 6);
-    }
-
-    private static void clashOfThreeRulesOverFewer() {
-        int[][] pairs = {{0, 0, 9, 0}, {0, 9, 0, 0}, {9, 0, 0, 0}, {9, 9, 9, 0}};
-        SettingSearch x = withLoads(pairs);
-        mosts(x, 1, 1, 1, 1);
-        dueClash(x, "only all three", 4, 5, 6);
-        x.purity(0, 0, 0, 1);
-        x.purity(0, 1, 1, 1);
-        dueClash(x, "a purity alone", 1);
-    }
-
-    private static void clashTakesTheLeastSet() {
-        // Both {4, 7} and {5, 6} clash: 2^4 + 2^7 is more than 2^5 + 2^6.
-        SettingSearch x = withLoads(new int[][] {{0, 0, 9, 9}, {0, 9, 0, 9}, {9, 0, 9, 0}, {9, 9, 0, 0}});
-        mosts(x, 1, 1, 1, 1);
-        dueClash(x, "least sum", 5, 6);
-    }
-
-    private static void clashFollowsRulesAsTheyAre() {
-        SettingSearch x = withLoads(new int[][] {{1}, {2}, {3}, {4}});
-        CHECK.due("18 sum", x.sum(), 40);
-        x.purity(0, 0, 1, 1);
-        x.purity(1, 0, 1, 1);
-        dueClash(x, "an empty port is pure");
-        x.purity(0, 1, 1, 1000);
-        dueClash(x, "no kind 1 in port 0", 2);
-        CHECK.due("18 best stays", x.best(0), 3);
-        x.purity(0, 2, 1, 1000);
-        dueClash(x, "the first of two", 2);
-        x.most(0, 0);
-        dueClash(x, "the first of three", 2);
-    }
-
-    private static void clashOnlyOfTheLatestFeed() {
-        SettingSearch x = withLoads(new int[][] {{5}, {5}, {5}, {5}});
-        Runs.searchAll(x, 50, 1);
-        x.most(0, 4);
-        dueClash(x, "feed 50 stands");
-        x.feed(100);
-        dueClash(x, "goes on");
-        x.next();
-        dueClash(x, "feed 100 does not", 4);
-        SettingSearch y = new SettingSearch();
-        y.machine(2);
-        y.worth(0, 0, 1);
-        y.feed(3);
-        y.next();
-        y.answer(0, 0, 3);
-        y.load(0, 3);
-        y.next();
-        y.most(0, 2);
-        dueClash(y, "of the one answer that is kept", 4);
+        CHECK.due(when + " clash(" + rules.length + ")", x.clash(rules.length), -1);
     }
 
     private static void clashOnlyWhenEnded() {
-        SettingSearch x = new SettingSearch();
-        x.machine(2);
+        CHECK.sentence("18: When the latest search ended");
+        SettingSearch x = Runs.machines(2);
         x.most(0, 0);
         dueClash(x, "nothing searched");
         x.feed(3);
@@ -202,97 +194,302 @@ public final class AfterSearchTest {
         x.next();
         x.load(0, 1);
         x.next();
+        dueClash(x, "one kept, which does not stand");
         x.load(0, 1);
-        dueClash(x, "one kept");
+        dueClash(x, "both told");
         x.next();
         dueClash(x, "ended", 4);
+        x.feed(3);
+        dueClash(x, "another goes on");
+        x.next();
+        dueClash(x, "it ended", 4);
         x.machine(1);
         dueClash(x, "forgotten");
     }
 
-    private static void clashOfAllRules() {
-        SettingSearch x = new SettingSearch();
-        int[] settings = {4, 3, 1, 1, 1};
-        for (int one : settings) {
-            x.machine(one);
+    private static void clashOnlyWhenNoneStands() {
+        CHECK.sentence("18: and of the answers kept of its feed none stands");
+        SettingSearch x = withLoads(row(9, 9), row(9, 9), row(9, 9), row(9, 5));
+        dueClash(x, "no rules");
+        mosts(x, 9, 5);
+        dueClash(x, "the last stands");
+        mosts(x, 9, 4);
+        dueClash(x, "none stands", 5);
+    }
+
+    private static void clashOfTheAnswersOfItsFeed() {
+        CHECK.sentence("18: of the answers kept OF ITS FEED");
+        SettingSearch x = withLoads(row(5), row(5), row(5), row(5));
+        Runs.searchAll(x, 50, 1);
+        x.most(0, 4);
+        dueClash(x, "those of feed 50 stand");
+        x.feed(100);
+        x.next();
+        dueClash(x, "those of feed 100 do not", 4);
+    }
+
+    private static void clashOfAnswersNotGoneThrough() {
+        CHECK.sentence("18: of the answers KEPT of its feed, gone through or not");
+        SettingSearch x = withLoads(row(5), row(6), row(7), row(4));
+        x.worth(0, 0, 0);
+        x.feed(100);
+        CHECK.due("ends at the first", x.next(), 0);
+        CHECK.due("best", x.best(0), 0);
+        x.most(0, 4);
+        dueClash(x, "the last one stands");
+        x.most(0, 3);
+        dueClash(x, "none stands", 4);
+        SettingSearch y = Runs.machines(2);
+        y.feed(3);
+        y.next();
+        y.load(0, 3);
+        CHECK.due("ends with one answer", y.next(), 0);
+        y.most(0, 2);
+        dueClash(y, "the one kept does not stand", 4);
+    }
+
+    private static void clashByRulesAsTheyAreNow() {
+        CHECK.sentence("18: by the rules as they are now");
+        SettingSearch x = withLoads(row(1), row(2), row(3), row(4));
+        x.purity(0, 0, 1, 1);
+        x.purity(1, 0, 1, 1);
+        dueClash(x, "two that are kept");
+        x.most(0, 0);
+        dueClash(x, "a most that is not", 4);
+        x.most(0, 1);
+        dueClash(x, "a most that is kept");
+        x.purity(0, 1, 1, 1000);
+        dueClash(x, "a purity that is not", 2);
+        CHECK.due("best stays", x.best(0), 3);
+    }
+
+    private static void clashOfTheFewestRules() {
+        CHECK.sentence("18: the fewest rules told of which none of these keeps all");
+        SettingSearch x = withLoads(row(0, 0, 9, 0), row(0, 9, 0, 0), row(9, 0, 0, 0), row(9, 9, 9, 0));
+        mosts(x, 1, 1, 1, 1);
+        dueClash(x, "three, of which two are always kept", 4, 5, 6);
+        SettingSearch y = withLoads(row(0, 0, 9, 9), row(0, 9, 0, 9), row(9, 0, 0, 9), row(0, 9, 9, 0));
+        mosts(y, 1, 1, 1, 1);
+        dueClash(y, "two with a greater sum than three", 5, 7);
+        y.purity(0, 0, 0, 1);
+        y.purity(0, 0, 0, 1);
+        y.purity(0, 1, 1, 1);
+        dueClash(y, "one", 2);
+        mosts(y, -1, -1, 1, -1);
+        dueClash(y, "one told beside others", 2);
+    }
+
+    private static void clashOfRulesToldAlone() {
+        CHECK.sentence("18: the fewest rules TOLD");
+        SettingSearch x = withLoads(row(9, 9), row(9, 9), row(9, 9), row(9, 9));
+        mosts(x, 1, 1);
+        dueClash(x, "the first of two", 4);
+        mosts(x, -1, 1);
+        dueClash(x, "the one that is told", 5);
+        mosts(x, -1, -1);
+        dueClash(x, "none is told");
+    }
+
+    private static void clashOfTheLeastSum() {
+        CHECK.sentence("18: of such sets of rules the one whose sum of 2^r for its rules r is least");
+        // {4, 7} and {5, 6} clash: 16 + 128 is more than 32 + 64.
+        SettingSearch x = withLoads(row(0, 0, 9, 9), row(0, 9, 0, 9), row(9, 0, 9, 0), row(9, 9, 0, 0));
+        mosts(x, 1, 1, 1, 1);
+        dueClash(x, "{5, 6} before {4, 7}", 5, 6);
+        SettingSearch y = withLoads(row(1, 1, 9), row(1, 1, 9), row(9, 9, 1), row(9, 1, 9));
+        mosts(y, 1, 1, 1);
+        dueClash(y, "{4, 6} before {5, 6}", 4, 6);
+        SettingSearch z = withLoads(row(9, 9, 9, 9, 9), row(9, 9, 9, 9, 9), row(9, 9, 9, 9, 9), row(9, 9, 9, 9, 9));
+        mosts(z, 1, 1, 1, 1, 1);
+        for (int rule = 4; rule < 9; rule++) {
+            dueClash(z, "the least of those left", rule);
+            z.most(rule - 4, -1);
         }
-        int[][] purities = {{0, 0}, {0, 1}, {1, 0}, {1, 1}};
-        for (int[] purity : purities) {
-            x.purity(purity[0], purity[1], 1, 3);
+    }
+
+    /** Each of nine answers breaks one rule of its own, three more break all mosts and two purities. */
+    private static SettingSearch nineAgainstNine() {
+        SettingSearch x = Runs.machines(4, 3, 1, 1, 1);
+        for (int rule = 0; rule < 4; rule++) {
+            x.purity(rule / 2, rule % 2, 1, 3);
         }
         mosts(x, 1, 1, 1, 1, 1);
         x.worth(2, 2, 1);
         x.feed(9);
-        // Each of nine answers breaks one rule of its own, three more break all mosts and two purities.
         for (int broken = 0; broken < 12; broken++) {
             x.next();
-            x.answer(0, 0, broken == 0 ? 0 : 1);
-            x.answer(0, 1, broken == 1 ? 0 : 1);
+            for (int rule = 0; rule < 4; rule++) {
+                x.answer(rule / 2, rule % 2, broken == rule ? 0 : 1);
+            }
             x.answer(0, 2, broken >= 9 ? 4 : 0);
-            x.answer(1, 0, broken == 2 ? 0 : 1);
-            x.answer(1, 1, broken == 3 ? 0 : 1);
             for (int machine = 0; machine < 5; machine++) {
                 x.load(machine, broken == 4 + machine || broken >= 9 ? 2 : 1);
             }
         }
-        CHECK.due("18 all gone through", x.next(), 0);
-        dueClash(x, "all nine", 0, 1, 2, 3, 4, 5, 6, 7, 8);
-        x.most(4, -1);
-        dueClash(x, "one of them gone");
+        CHECK.due("all gone through", x.next(), 0);
+        return x;
     }
 
-    private static void roomOfAMost() {
-        SettingSearch x = withLoads(new int[][] {{1, 1}, {1, 2}, {2, 1}, {2, 2}});
-        CHECK.due("19 without rules", x.room(0), 0);
-        mosts(x, 1, 1);
-        CHECK.due("19 machine 0's most costs", x.room(0), 20);
-        CHECK.due("19 machine 1's most costs", x.room(1), 10);
-        mosts(x, 1, 2);
-        CHECK.due("19 machine 0's costs", x.room(0), 20);
-        CHECK.due("19 machine 1's costs nothing", x.room(1), 0);
-        mosts(x, -1, 1);
-        CHECK.due("19 no most", x.room(0), 0);
-        CHECK.due("19 the other's", x.room(1), 10);
+    private static void clashOfAllNineRules() {
+        CHECK.sentence("18: the fewest rules: all nine");
+        for (int machine = 0; machine < 5; machine++) {
+            SettingSearch x = nineAgainstNine();
+            dueClash(x, "all nine", 0, 1, 2, 3, 4, 5, 6, 7, 8);
+            x.most(machine, -1);
+            dueClash(x, "all but one");
+        }
     }
 
-    private static void roomFollowsCentsAndRules() {
-        SettingSearch x = withLoads(new int[][] {{1}, {2}, {3}, {4}});
-        x.most(0, 1);
-        x.worth(0, 0, 7);
-        CHECK.due("19 by cents as they are", x.room(0), 210);
-        x.worth(0, 0, -7);
-        CHECK.due("19 by cents below 0", x.room(0), 0);
-        x.most(0, 2);
-        x.worth(0, 0, 2);
-        CHECK.due("19 by most as it is", x.room(0), 40);
+    private static void clashCountsByNumbers() {
+        CHECK.sentence("18: the k-th, by numbers");
+        SettingSearch x = withLoads(row(0, 0, 9), row(0, 0, 9), row(9, 9, 0), row(9, 9, 0));
+        x.most(2, 1);
         x.purity(0, 0, 1, 1);
-        CHECK.due("19 a purity that all keep", x.room(0), 40);
+        x.most(1, 1);
+        CHECK.due("clash(0)", x.clash(0), 5);
+        CHECK.due("clash(1)", x.clash(1), 6);
+    }
+
+    private static void clashIsNoneBeyondTheSet() {
+        CHECK.sentence("18: Else, and when there is none such, NONE");
+        SettingSearch x = withLoads(row(0, 9), row(0, 9), row(9, 0), row(9, 0));
+        mosts(x, 1, 1);
+        int[] beyond = {-1, -2, -32, 2, 3, 8, 9, 31, 32, 33, 64, Integer.MIN_VALUE, Integer.MAX_VALUE};
+        for (int k : beyond) {
+            CHECK.due("clash(" + k + ")", x.clash(k), -1);
+        }
+        mosts(x, 9, 9);
+        for (int k : beyond) {
+            CHECK.due("one stands, clash(" + k + ")", x.clash(k), -1);
+        }
+    }
+
+    private static void roomIsWhatAMostCosts() {
+        CHECK.sentence("19: the greatest worth .. when the machine has no most, less that of those that stand");
+        SettingSearch x = withLoads(row(1, 1), row(1, 2), row(2, 1), row(2, 2));
+        mosts(x, 1, 1);
+        CHECK.due("machine 0's", x.room(0), 20);
+        CHECK.due("machine 1's", x.room(1), 10);
+        mosts(x, 1, 2);
+        CHECK.due("machine 0's beside a most of 2", x.room(0), 20);
+        CHECK.due("machine 1's that costs nothing", x.room(1), 0);
+        SettingSearch y = withLoads(row(1, 1, 1, 1, 1), row(1, 1, 1, 1, 2), row(1, 1, 1, 2, 1), row(2, 2, 2, 1, 1));
+        mosts(y, 1, 1, 1, 1, 1);
+        long[] rooms = {0, 0, 0, 20, 10};
+        for (int machine = 0; machine < 5; machine++) {
+            CHECK.due("of five, machine " + machine + "'s", y.room(machine), rooms[machine]);
+        }
+    }
+
+    private static void roomIsNoughtWithoutAMost() {
+        CHECK.sentence("19: when the machine has no most: it has none anyway");
+        SettingSearch x = withLoads(row(1, 1), row(1, 2), row(2, 1), row(2, 2));
+        CHECK.due("no rules", x.room(0), 0);
+        mosts(x, -1, 1);
+        CHECK.due("no most of machine 0", x.room(0), 0);
+        CHECK.due("machine 1's costs", x.room(1), 10);
+    }
+
+    private static void roomOfTheAnswersOfItsFeed() {
+        CHECK.sentence("19: of the answers kept OF ITS FEED");
+        SettingSearch x = withLoads(row(1), row(2), row(3), row(4));
+        x.most(0, 1);
+        CHECK.due("of feed 100", x.room(0), 30);
         x.feed(30);
-        CHECK.due("19 goes on", x.room(0), NONE_STANDS);
         x.next();
         x.answer(0, 0, 30);
         x.next();
-        CHECK.due("19 of the latest feed", x.room(0), 0);
+        CHECK.due("of feed 30", x.room(0), 0);
     }
 
-    private static void roomNeedsOneThatStands() {
-        SettingSearch x = withLoads(new int[][] {{5}, {2}, {3}, {4}});
+    private static void roomOfAnswersNotGoneThrough() {
+        CHECK.sentence("19: of the answers KEPT of its feed, gone through or not");
+        SettingSearch x = withLoads(row(1), row(1), row(1), row(2));
+        x.worth(0, 0, 0);
+        x.feed(100);
+        CHECK.due("ends at the first", x.next(), 0);
+        x.worth(0, 0, 1);
         x.most(0, 1);
-        CHECK.due("19 none stands", x.room(0), NONE_STANDS);
-        x.most(0, 2);
-        CHECK.due("19 one stands", x.room(0), 20);
-        x.purity(0, 1, 1, 1);
-        CHECK.due("19 none is pure", x.room(0), NONE_STANDS);
+        CHECK.due("the third stands, the fourth would", x.room(0), 10);
     }
 
-    private static void roomRefuses() {
-        SettingSearch x = withLoads(new int[][] {{1}, {2}, {3}, {4}});
-        CHECK.due("19 room(0)", x.room(0), 0);
-        CHECK.due("19 room(1)", x.room(1), NONE_STANDS);
-        CHECK.due("19 room(-1)", x.room(-1), NONE_STANDS);
-        CHECK.due("19 room(MIN)", x.room(Integer.MIN_VALUE), NONE_STANDS);
-        CHECK.due("19 room(MAX)", x.room(Integer.MAX_VALUE), NONE_STANDS);
+    private static void roomByCentsAndRulesAsTheyAreNow() {
+        CHECK.sentence("19: by cents and rules as they are now");
+        SettingSearch x = withLoads(row(1), row(2), row(3), row(4));
+        x.most(0, 1);
+        x.worth(0, 0, 7);
+        CHECK.due("by 7 cents", x.room(0), 210);
+        x.worth(0, 0, -7);
+        CHECK.due("by cents below 0", x.room(0), 0);
+        x.worth(0, 0, 2);
+        x.most(0, 2);
+        CHECK.due("by a most of 2", x.room(0), 40);
+        x.purity(0, 0, 1, 1);
+        CHECK.due("by a purity that all keep", x.room(0), 40);
+        x.most(0, 0);
+        x.most(0, -1);
+        CHECK.due("by no most", x.room(0), 0);
+    }
+
+    private static void roomOfGreatNumbers() {
+        CHECK.sentence("19: from the least worth to the greatest");
+        SettingSearch x = Runs.machines(2);
+        x.worth(0, 0, -1000);
+        x.worth(1, 0, 1000);
+        x.feed(1000000);
+        x.next();
+        x.answer(0, 0, 1000000);
+        x.next();
+        x.answer(1, 0, 1000000);
+        x.load(0, 1);
+        x.next();
+        x.most(0, 0);
+        CHECK.due("room", x.room(0), 2000000000L);
+    }
+
+    private static void roomIsTheLeastWhenNoneStands() {
+        CHECK.sentence("19: Long.MIN_VALUE when none stands");
+        SettingSearch x = withLoads(row(5), row(2), row(3), row(4));
+        x.most(0, 1);
+        CHECK.due("too much load", x.room(0), Runs.NO_SUM);
+        x.most(0, 2);
+        CHECK.due("one stands", x.room(0), 20);
+        x.purity(0, 1, 1, 1);
+        CHECK.due("none is pure", x.room(0), Runs.NO_SUM);
+        x.most(0, -1);
+        CHECK.due("none is pure, no most", x.room(0), Runs.NO_SUM);
+    }
+
+    private static void roomIsTheLeastWhenItDidNotEnd() {
+        CHECK.sentence("19: Long.MIN_VALUE when it did not end");
+        SettingSearch x = Runs.twoByThree();
+        CHECK.due("nothing searched", x.room(0), Runs.NO_SUM);
+        x.feed(9);
+        CHECK.due("begun", x.room(0), Runs.NO_SUM);
+        x.next();
+        x.answer(0, 0, 1);
+        x.next();
+        CHECK.due("one kept", x.room(0), Runs.NO_SUM);
+        x.answer(0, 0, 9);
+        x.next();
+        CHECK.due("ended", x.room(0), 0);
+        x.feed(9);
+        CHECK.due("another goes on", x.room(0), Runs.NO_SUM);
+        x.next();
+        CHECK.due("it ended", x.room(0), 0);
         x.machine(1);
-        CHECK.due("19 forgotten", x.room(0), NONE_STANDS);
+        CHECK.due("forgotten", x.room(0), Runs.NO_SUM);
+    }
+
+    private static void roomIsTheLeastOfOtherMachines() {
+        CHECK.sentence("19: Long.MIN_VALUE when there is no such machine");
+        SettingSearch x = withLoads(row(1, 1), row(2, 2), row(3, 3), row(4, 4));
+        CHECK.due("room(1)", x.room(1), 0);
+        for (int machine = 2; machine < 5; machine++) {
+            CHECK.due("room(" + machine + ")", x.room(machine), Runs.NO_SUM);
+        }
+        for (int machine : Runs.WRONG_MACHINES) {
+            CHECK.due("room(" + machine + ")", x.room(machine), Runs.NO_SUM);
+        }
     }
 }

@@ -1,16 +1,24 @@
-/** Compares answers with those that are due, and tells the number of wrong ones by the exit code. */
+/** Compares answers with those that are due, and tells by the exit code whether one was wrong. */
 final class Check {
     private final String test;
+    private String sentence = "";
+    private int sentences = 0;
     private int wrong = 0;
 
     Check(String test) {
         this.test = test;
     }
 
+    /** The words of the document that the next answers are tested for, behind their promise's number. */
+    void sentence(String words) {
+        sentence = " \"" + words + "\"";
+        sentences++;
+    }
+
     void due(String call, long got, long want) {
         if (got != want) {
             wrong++;
-            System.out.println(test + ": " + call + " answered " + got + ", due is " + want);
+            System.out.println(test + sentence + ": " + call + " answered " + got + ", due is " + want);
         }
     }
 
@@ -18,8 +26,16 @@ final class Check {
         due(call, got ? 1 : 0, want ? 1 : 0);
     }
 
+    void due(String what, String got, String want) {
+        if (!got.equals(want)) {
+            wrong++;
+            System.out.println(test + sentence + ": " + what + " is " + got + ", due is " + want);
+        }
+    }
+
     void finish() {
-        System.out.println(wrong == 0 ? "all answers are as due" : wrong + " answers are not as due");
+        String tested = sentences == 0 ? "" : sentences + " sentences, ";
+        System.out.println(tested + (wrong == 0 ? "all answers are as due" : wrong + " answers are not as due"));
         if (wrong != 0) {
             System.exit(1);
         }

@@ -26,7 +26,7 @@ final class Model {
     private long bestWorth = Long.MIN_VALUE;
 
     int machine(int s) {
-        int vectors = allVectors().size();
+        int vectors = Vectors.all(settings).size();
         if (going || settings.size() == 5 || s < 1 || s > 4 || vectors * s > 64) {
             return -1;
         }
@@ -74,9 +74,7 @@ final class Model {
         feed = grams;
         kept.computeIfAbsent(grams, key -> new LinkedHashMap<>());
         going = true;
-        ahead = allVectors();
-        ahead.sort(Comparator.comparingInt((List<Integer> vector) -> changesOf(vector))
-                .thenComparing(Model::byMachines));
+        ahead = Vectors.inOrder(settings, current);
         best = null;
         bestWorth = Long.MIN_VALUE;
         return true;
@@ -151,14 +149,14 @@ final class Model {
     }
 
     int changes() {
-        return best == null ? -1 : changesOf(best);
+        return best == null ? -1 : Vectors.changes(best, current);
     }
 
     int take() {
         if (going || best == null) {
             return -1;
         }
-        int changed = changesOf(best);
+        int changed = Vectors.changes(best, current);
         current = best;
         return changed;
     }
@@ -213,40 +211,6 @@ final class Model {
 
     private static boolean isPlace(int port, int kind) {
         return port >= 0 && port <= 2 && kind >= 0 && kind <= 2;
-    }
-
-    private List<List<Integer>> allVectors() {
-        List<List<Integer>> vectors = new ArrayList<>();
-        vectors.add(new ArrayList<>());
-        for (int count : settings) {
-            List<List<Integer>> longer = new ArrayList<>();
-            for (List<Integer> vector : vectors) {
-                for (int setting = 0; setting < count; setting++) {
-                    List<Integer> more = new ArrayList<>(vector);
-                    more.add(setting);
-                    longer.add(more);
-                }
-            }
-            vectors = longer;
-        }
-        return vectors;
-    }
-
-    private static int byMachines(List<Integer> a, List<Integer> b) {
-        for (int machine = 0; machine < a.size(); machine++) {
-            if (!a.get(machine).equals(b.get(machine))) {
-                return a.get(machine) - b.get(machine);
-            }
-        }
-        return 0;
-    }
-
-    private int changesOf(List<Integer> vector) {
-        int changes = 0;
-        for (int machine = 0; machine < vector.size(); machine++) {
-            changes += vector.get(machine).equals(current.get(machine)) ? 0 : 1;
-        }
-        return changes;
     }
 
     private long worthOf(Reply reply) {

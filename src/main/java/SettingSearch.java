@@ -180,7 +180,7 @@ public final class SettingSearch {
         long bound = boundOf(answers);
         for (; search.at < search.length && search.bestWorth != bound; search.at++) {
             int vector = search.order[search.at];
-            if (!answers.known[vector]) {
+            if (!answers.knows(vector)) {
                 search.asked = vector;
                 answers.clearRow(vector);
                 return 1;
@@ -215,7 +215,7 @@ public final class SettingSearch {
     private long greatestWorth(Answers answers, int set) {
         long greatest = Long.MIN_VALUE;
         for (int vector = 0; vector < VECTORS; vector++) {
-            if (answers.known[vector] && (rules.keptBy(answers, vector) & set) == set) {
+            if (answers.knows(vector) && (rules.keptBy(answers, vector) & set) == set) {
                 greatest = Math.max(greatest, answers.worthBy(vector, cents));
             }
         }
@@ -246,7 +246,7 @@ public final class SettingSearch {
     private int listKeptRules(Answers answers) {
         int rows = 0;
         for (int vector = 0; vector < VECTORS; vector++) {
-            if (answers.known[vector]) {
+            if (answers.knows(vector)) {
                 keptRules[rows] = rules.keptBy(answers, vector);
                 rows++;
             }
@@ -444,6 +444,10 @@ public final class SettingSearch {
             }
         }
 
+        boolean knows(int vector) {
+            return hasRow(vector) && known[vector];
+        }
+
         void keep(int vector) {
             if (hasRow(vector) && !known[vector]) {
                 known[vector] = true;
@@ -575,7 +579,7 @@ public final class SettingSearch {
             going = true;
             for (int changes = 0; changes <= machines.count; changes++) {
                 for (int vector = 0; vector < machines.vectors; vector++) {
-                    if (machines.changesOf(vector) == changes) {
+                    if (length < VECTORS && machines.changesOf(vector) == changes) {
                         order[length] = vector;
                         length++;
                     }

@@ -14,6 +14,7 @@ public final class AfterSearchTest {
         clashOnlyWhenNoneStands();
         clashOfTheAnswersOfItsFeed();
         clashOfAnswersNotGoneThrough();
+        clashOf64Answers();
         clashByRulesAsTheyAreNow();
         clashOfTheFewestRules();
         clashOfRulesToldAlone();
@@ -25,6 +26,7 @@ public final class AfterSearchTest {
         roomIsNoughtWithoutAMost();
         roomOfTheAnswersOfItsFeed();
         roomOfAnswersNotGoneThrough();
+        roomOf64Answers();
         roomByCentsAndRulesAsTheyAreNow();
         roomOfGreatNumbers();
         roomIsTheLeastWhenNoneStands();
@@ -226,6 +228,18 @@ public final class AfterSearchTest {
         x.feed(100);
         x.next();
         dueClash(x, "those of feed 100 do not", 4);
+        x.most(0, 5);
+        dueClash(x, "all four of feed 100 stand");
+        x.worth(0, 0, 0);
+        x.feed(70);
+        x.next();
+        x.load(0, 4);
+        x.next();
+        CHECK.due("one answer of feed 70", x.kept(70), 1);
+        x.most(0, 3);
+        dueClash(x, "it does not stand", 4);
+        x.most(0, 4);
+        dueClash(x, "it stands");
     }
 
     private static void clashOfAnswersNotGoneThrough() {
@@ -246,6 +260,30 @@ public final class AfterSearchTest {
         CHECK.due("ends with one answer", y.next(), 0);
         y.most(0, 2);
         dueClash(y, "the one kept does not stand", 4);
+    }
+
+    /** 64 answers of worths 0 to 63; the load of vector i in the order is 100 - i. */
+    private static SettingSearch with64Loads() {
+        SettingSearch x = Runs.machines(4, 4, 4);
+        x.worth(0, 0, 1);
+        x.feed(100);
+        for (int vector = 0; vector < 64; vector++) {
+            x.next();
+            x.answer(0, 0, vector);
+            x.load(2, 100 - vector);
+        }
+        CHECK.due("end", x.next(), 0);
+        CHECK.due("kept", x.kept(100), 64);
+        return x;
+    }
+
+    private static void clashOf64Answers() {
+        CHECK.sentence("18: of the answers kept of its feed: 64");
+        SettingSearch x = with64Loads();
+        x.most(2, 37);
+        dueClash(x, "the last stands");
+        x.most(2, 36);
+        dueClash(x, "none stands", 6);
     }
 
     private static void clashByRulesAsTheyAreNow() {
@@ -411,6 +449,19 @@ public final class AfterSearchTest {
         x.worth(0, 0, 1);
         x.most(0, 1);
         CHECK.due("the third stands, the fourth would", x.room(0), 10);
+    }
+
+    private static void roomOf64Answers() {
+        CHECK.sentence("19: of the answers kept of its feed: 64");
+        SettingSearch x = with64Loads();
+        x.worth(0, 0, -1);
+        x.most(2, 37);
+        CHECK.due("the last stands, the first would", x.room(2), 63);
+        x.most(2, 99);
+        CHECK.due("the second stands", x.room(2), 1);
+        CHECK.due("of a machine without a most", x.room(1), 0);
+        x.most(2, 36);
+        CHECK.due("none stands", x.room(2), Runs.NO_SUM);
     }
 
     private static void roomByCentsAndRulesAsTheyAreNow() {

@@ -73,6 +73,7 @@ public final class RefusalTest {
         for (Stage stage : stages) {
             for (Call call : stage.calls) {
                 CHECK.due(when + stage.name + ": " + call.name, call.on(x), call.on(y));
+                CHECK.due(when + stage.name + ": sum after " + call.name, x.sum(), y.sum());
             }
         }
     }

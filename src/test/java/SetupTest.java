@@ -131,6 +131,7 @@ public final class SetupTest {
         }
         for (int feed = 4; feed <= 7; feed++) {
             CHECK.due("asked in feed " + feed, Runs.searchAll(x, feed, 0), 2);
+            CHECK.due("kept after it", x.kept(feed), 2);
         }
         CHECK.due("feed that was kept once", x.feed(1), false);
     }

@@ -19,6 +19,7 @@ public final class TermsTest {
         worthIsOfPortAndKind();
         worthIsAllTogether();
         answersAreKeptOfFourFeeds();
+        allAnswersOfFourFeedsAreKept();
         puritiesAreRulesNoughtToThree();
         purityIsAtLeast();
         purityOfGreatNumbers();
@@ -234,6 +235,28 @@ public final class TermsTest {
             CHECK.due("kept(" + feed + ")", x.kept(feed), 1);
         }
         CHECK.due("kept(3)", x.kept(3), 0);
+    }
+
+    private static void allAnswersOfFourFeedsAreKept() {
+        CHECK.sentence("Answers are KEPT by feeds: 64 of each of four");
+        SettingSearch x = Runs.machines(4, 4, 4);
+        x.worth(0, 0, 1);
+        for (int feed = 1; feed <= 4; feed++) {
+            x.feed(feed);
+            for (int vector = 0; vector < 64; vector++) {
+                x.next();
+            }
+            x.answer(0, 0, feed - 1);
+            x.load(1, feed);
+            CHECK.due("end", x.next(), 0);
+        }
+        CHECK.due("fifth feed", x.feed(5), false);
+        for (int feed = 1; feed <= 4; feed++) {
+            CHECK.due("kept(" + feed + ")", x.kept(feed), 64);
+            x.feed(feed);
+            CHECK.due("none is asked for", x.next(), 0);
+            CHECK.due("sum of feed " + feed, x.sum(), feed - 1);
+        }
     }
 
     private static void puritiesAreRulesNoughtToThree() {

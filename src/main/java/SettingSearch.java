@@ -178,11 +178,12 @@ public final class SettingSearch {
     /** Walks the order until a vector is unknown (1) or the search has ended (0). */
     private int goOn(Answers answers) {
         long bound = boundOf(answers);
-        for (; search.at < search.length && search.bestWorth != bound; search.at++) {
-            int vector = search.order[search.at];
+        for (int at = search.at; at < search.length && search.bestWorth != bound; at++) {
+            int vector = search.order[at];
             if (!answers.knows(vector)) {
-                search.asked = vector;
                 answers.clearRow(vector);
+                search.at = at;
+                search.asked = vector;
                 return 1;
             }
             weigh(answers, vector);

@@ -16,6 +16,7 @@ public final class AfterSearchTest {
         clashOfAnswersNotGoneThrough();
         clashOf64Answers();
         clashByRulesAsTheyAreNow();
+        clashOfAnswersThatStandNow();
         clashOfTheFewestRules();
         clashOfRulesToldAlone();
         clashOfTheLeastSum();
@@ -24,10 +25,12 @@ public final class AfterSearchTest {
         clashIsNoneBeyondTheSet();
         roomIsWhatAMostCosts();
         roomIsNoughtWithoutAMost();
+        roomLeavesTheOtherRules();
         roomOfTheAnswersOfItsFeed();
         roomOfAnswersNotGoneThrough();
         roomOf64Answers();
         roomByCentsAndRulesAsTheyAreNow();
+        roomOfAnswersThatStandNow();
         roomOfGreatNumbers();
         roomIsTheLeastWhenNoneStands();
         roomIsTheLeastWhenItDidNotEnd();
@@ -301,6 +304,18 @@ public final class AfterSearchTest {
         CHECK.due("best stays", x.best(0), 3);
     }
 
+    private static void clashOfAnswersThatStandNow() {
+        CHECK.sentence("18: none stands by the rules as they are now: though none stood in the search");
+        SettingSearch x = noneStood();
+        dueClash(x, "none stands", 4);
+        x.most(0, 1);
+        dueClash(x, "the first stands now");
+        x.purity(0, 1, 1, 1);
+        dueClash(x, "no longer", 0);
+        x.most(0, 0);
+        dueClash(x, "either rule alone, the lesser number", 0);
+    }
+
     private static void clashOfTheFewestRules() {
         CHECK.sentence("18: the fewest rules told of which none of these keeps all");
         SettingSearch x = withLoads(row(0, 0, 9, 0), row(0, 9, 0, 0), row(9, 0, 0, 0), row(9, 9, 9, 0));
@@ -428,6 +443,36 @@ public final class AfterSearchTest {
         CHECK.due("machine 1's costs", x.room(1), 10);
     }
 
+    private static void roomLeavesTheOtherRules() {
+        CHECK.sentence("19: that stand when the machine has no most: all other rules are to be kept");
+        for (int rule = 0; rule < 4; rule++) {
+            SettingSearch x = withImpureLast();
+            for (int other = 0; other < 4; other++) {
+                x.purity(1, other == rule ? 0 : 2, other == rule ? 1 : 0, 1);
+            }
+            x.most(0, 1);
+            CHECK.due("the last breaks purity " + rule, x.room(0), 10);
+        }
+        SettingSearch y = withImpureLast();
+        y.most(0, 1);
+        CHECK.due("without a purity", y.room(0), 20);
+    }
+
+    /** Three vectors of worths 10 to 30, loads 1 to 3; port 1 of the last has another kind than 0. */
+    private static SettingSearch withImpureLast() {
+        SettingSearch x = Runs.machines(3);
+        x.worth(0, 0, 1);
+        x.feed(100);
+        for (int row = 1; row <= 3; row++) {
+            x.next();
+            x.answer(0, 0, 10 * row);
+            x.answer(1, row == 3 ? 1 : 0, 1);
+            x.load(0, row);
+        }
+        x.next();
+        return x;
+    }
+
     private static void roomOfTheAnswersOfItsFeed() {
         CHECK.sentence("19: of the answers kept OF ITS FEED");
         SettingSearch x = withLoads(row(1), row(2), row(3), row(4));
@@ -480,6 +525,35 @@ public final class AfterSearchTest {
         x.most(0, 0);
         x.most(0, -1);
         CHECK.due("by no most", x.room(0), 0);
+    }
+
+    /** A search without a best one: two answers of worths 10 and 20, loads 1 and 2, a most of 0. */
+    private static SettingSearch noneStood() {
+        SettingSearch x = Runs.machines(2);
+        x.worth(0, 0, 1);
+        x.most(0, 0);
+        x.feed(100);
+        for (int row = 1; row <= 2; row++) {
+            x.next();
+            x.answer(0, 0, 10 * row);
+            x.load(0, row);
+        }
+        CHECK.due("end", x.next(), 0);
+        CHECK.due("no best one", x.best(0), -1);
+        return x;
+    }
+
+    private static void roomOfAnswersThatStandNow() {
+        CHECK.sentence("19: by rules as they are now: when none stood in the search");
+        SettingSearch x = noneStood();
+        CHECK.due("none stands", x.room(0), Runs.NO_SUM);
+        x.most(0, 1);
+        CHECK.due("the first stands now", x.room(0), 10);
+        x.most(0, 2);
+        CHECK.due("both stand now", x.room(0), 0);
+        x.most(0, -1);
+        CHECK.due("no rule is left", x.room(0), 0);
+        CHECK.due("the search found none", x.sum(), Runs.NO_SUM);
     }
 
     private static void roomOfGreatNumbers() {
